@@ -1,0 +1,57 @@
+/** What the tests share: comparing an answer with the one that is due, and telling texts at once. */
+final class Check {
+    private final String test;
+    private int asked = 0;
+    private int wrong = 0;
+
+    Check(String test) {
+        this.test = test;
+    }
+
+    void due(String call, long got, long want) {
+        asked++;
+        if (got != want) {
+            wrong++;
+            System.out.println(test + ": " + call + " answered " + got + ", due is " + want);
+        }
+    }
+
+    void holds(String claim, boolean holds) {
+        asked++;
+        if (!holds) {
+            wrong++;
+            System.out.println(test + ": it does not hold that " + claim);
+        }
+    }
+
+    void end() {
+        if (wrong == 0) {
+            System.out.println(test + ": all " + asked + " answers are as due");
+            return;
+        }
+        System.out.println(test + ": " + wrong + " of " + asked + " answers are not as due");
+        System.exit(1);
+    }
+
+    static void tell(RowingEight x, int text, String bytes) {
+        x.wipe(text);
+        for (int i = 0; i < bytes.length(); i++) {
+            x.type(text, bytes.charAt(i));
+        }
+    }
+
+    /** A new object with these rowers, rates and rudder. */
+    static RowingEight eight(String crew, String rates, String rudder) {
+        RowingEight x = new RowingEight();
+        tell(x, 0, crew);
+        tell(x, 1, rates);
+        tell(x, 2, rudder);
+        return x;
+    }
+
+    static void gusts(RowingEight x, int many, int minute, int number) {
+        for (int i = 0; i < many; i++) {
+            x.event(1, minute, number);
+        }
+    }
+}
