@@ -7,7 +7,8 @@ import java.util.Arrays;
 public final class RowingEight {
     public static final int NONE = -1, BAD = -2, NOT = -3, FULL = -4;
 
-    private static final int SEATS = 8, MINUTES = 24, LAST = MINUTES - 1;
+    private static final int SEATS = 8, EVERY_SEAT = (1 << SEATS) - 1;
+    private static final int MINUTES = 24, LAST = MINUTES - 1;
     private static final int TEXTS = 3, CREW = 0, RATES = 1, RUDDER = 2;
     private static final int STEADY = 0, FIERY = 1, LATE = 2, SORTS = 3, TOP_POWER = 9;
     private static final int USUAL_RATE = 2, TOP_RATE = 3, FRESH_MINUTES = 6;
@@ -931,24 +932,27 @@ public final class RowingEight {
         }
 
         private void pullAll(Course course, int minute) {
-            int[] row = pull[minute];
             boolean rowing = home == NONE && course.rate[minute] > 0;
-            left[minute] = 0;
-            right[minute] = 0;
+            int idleSeats = rowing ? crabs[minute] : EVERY_SEAT;
+            int[] row = pull[minute];
+            int leftNow = 0;
+            int rightNow = 0;
             for (int seat = 0; seat < course.rowers; seat++) {
-                row[seat] = 0;
-                if (rowing && !hasBit(crabs[minute], seat)) {
-                    boolean fresh = minutesOf[seat] < FRESH_MINUTES;
-                    row[seat] = fresh ? freshPull[seat] : laterPull[seat];
+                int by = 0;
+                if (!hasBit(idleSeats, seat)) {
+                    by = minutesOf[seat] < FRESH_MINUTES ? freshPull[seat] : laterPull[seat];
                     minutesOf[seat]++;
-                    pulledBy[seat] += row[seat];
+                    pulledBy[seat] += by;
                 }
+                row[seat] = by;
                 if (seat % 2 == 0) {
-                    left[minute] += row[seat];
+                    leftNow += by;
                 } else {
-                    right[minute] += row[seat];
+                    rightNow += by;
                 }
             }
+            left[minute] = leftNow;
+            right[minute] = rightNow;
         }
 
         private int placeBehind(Course course, int minute, int before) {

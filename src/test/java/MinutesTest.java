@@ -188,7 +188,11 @@ public final class MinutesTest {
         RowingEight x = Check.eight("f5", "", "");
         check.due("grounded(0)", x.grounded(0), 20);
         check.due("grounded(1)", x.grounded(1), 4);
-        x.wipe(0);
+        x = new RowingEight();
+        Check.gusts(x, 5, 0, 1);
+        check.due("grounded(0), from the start", x.grounded(0), 24);
+        check.due("grounded(1), from the start", x.grounded(1), 0);
+        x.back();
         check.due("grounded(0), never", x.grounded(0), 0);
         check.due("grounded(1), never", x.grounded(1), NONE);
     }
@@ -200,6 +204,12 @@ public final class MinutesTest {
         Check.tell(x, 2, "l");
         check.due("stray(0), to the left", x.stray(0), 1);
         check.due("stray(1), to the left", x.stray(1), 1);
+        x = new RowingEight();
+        check.due("stray(1), never", x.stray(1), 0);
+        x.event(1, 0, 1);
+        x.event(1, 1, 0);
+        check.due("stray(0), there and back", x.stray(0), 0);
+        check.due("stray(1), there and back", x.stray(1), 2);
     }
 
     private static void best() {

@@ -109,6 +109,18 @@ public final class PlansTest {
         check.due("what was told stays", x.count(4), 8);
         x.back();
         spareIs(x, 2, 1, 2);
+        x = new RowingEight();
+        Check.gusts(x, 5, 0, 1);
+        spareIs(x, 1, 0, NONE);
+        Check.gusts(x, 1, 0, 1);
+        spareIs(x, 2, 0, 1);
+        // Behind minute 7 the boat is at 2: each gust by itself puts it at the bank.
+        x = Check.eight("", "", "llllllll");
+        x.event(2, 10, 0);
+        x.event(1, 10, 0);
+        x.event(2, 20, 0);
+        x.event(1, 20, 0);
+        spareIs(x, 2, 1, 3);
         x = Check.eight("s9", "", "");
         spareIs(x, NONE, NONE, NONE);
         check.due("spare(-2)", x.spare(-2), BAD);

@@ -99,6 +99,10 @@ public final class SeenTest {
         check.due("ask(0), the minute that tells", x.ask(0), 4);
         x.seen(0, 3);
         check.due("ask(0), no powers at all", x.ask(0), 0);
+        x = Check.eight("s9;s9", "23", "");
+        x.seen(0, 8);
+        check.due("was(0, 0), three are left", x.was(0, 0), 14);
+        check.due("ask(0), where one of three is alone", x.ask(0), 1);
         check.due("ask(-1)", x.ask(-1), BAD);
         check.due("ask(2)", x.ask(2), BAD);
         check.due("ask(0), no rowers", new RowingEight().ask(0), BAD);
@@ -138,6 +142,11 @@ public final class SeenTest {
         chanceIs(x, 8, 0, 93, 256);
         // The sum of C(8, k) 15^(8 - k) for k from 5 on, by 16^8.
         chanceIs(x, 1, 0, 195421L, 4294967296L);
+        x = new RowingEight();
+        for (int i = 0; i < 8; i++) {
+            x.event(2, i, 0);
+        }
+        chanceIs(x, 5, 23, 0, 1);
         x = Check.eight("s9", "", "");
         chanceIs(x, 5, 2, 0, 1);
         chanceIs(x, 5, 3, 1, 1);

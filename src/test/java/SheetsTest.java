@@ -245,6 +245,14 @@ public final class SheetsTest {
         x.event(2, 8, 7);
         x.seen(1, 10);
         check.due("digest() with events", x.digest(), digestBy(x));
+        x = Check.eight("s5;f4;l6", "020", "");
+        x.river(1, 999);
+        x.event(0, 1, 0);
+        x.event(0, 15, 1);
+        x.event(0, 16, 2);
+        check.due("digest() with crabs", x.digest(), digestBy(x));
+        Check.tell(x, 1, "000000000000000000000000");
+        check.due("digest() of idle ones", x.digest(), digestBy(x));
         x.type(0, 'x');
         check.due("digest() with a fault", x.digest(), digestBy(x));
     }

@@ -148,6 +148,8 @@ public final class TellingTest {
         x.type(2, 'x');
         check.due("call(0, 0) with a fault", x.call(0, 0), 2);
         check.due("call(1, 1) with a fault", x.call(1, 1), 0);
+        Check.tell(x, 2, "lx");
+        check.due("call(0, 1) with a fault", x.call(0, 1), 0);
         Check.tell(x, 1, "333333333333333333333331");
         check.due("call(23, 0), told", x.call(23, 0), 1);
     }
@@ -216,6 +218,9 @@ public final class TellingTest {
         check.due("read of an empty sheet", x.read(0), 0);
         items(x, 0, 0, 1, 0);
         check.due("read of no whole one", x.read(0), 0);
+        items(x, 0, 0, 1, 0, 1);
+        check.due("read of just one", x.read(0), 1);
+        x.back();
         items(x, 0, 0, 1, 0, 1, 2, 1, 7, 1, 0);
         check.due("read of two whole ones", x.read(0), 2);
         check.due("place by what was read", x.at(0, 1), 12);
