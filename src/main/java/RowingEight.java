@@ -906,10 +906,10 @@ public final class RowingEight {
             Arrays.fill(aside, 0);
             Arrays.fill(flood, 0);
             for (int e = 0; e < events.size; e++) {
-                int minute = events.minute[e];
-                if (!hasBit(mask, e)) {
+                if ((mask >> e & 1) == 0) {
                     continue;
                 }
+                int minute = events.minute[e];
                 if (events.kind[e] == CRAB) {
                     crabs[minute] |= 1 << events.number[e];
                 } else if (events.kind[e] == GUST) {
@@ -939,7 +939,7 @@ public final class RowingEight {
             int rightNow = 0;
             for (int seat = 0; seat < course.rowers; seat++) {
                 int by = 0;
-                if (!hasBit(idleSeats, seat)) {
+                if ((idleSeats >> seat & 1) == 0) {
                     by = minutesOf[seat] < FRESH_MINUTES ? freshPull[seat] : laterPull[seat];
                     minutesOf[seat]++;
                     pulledBy[seat] += by;
@@ -961,10 +961,11 @@ public final class RowingEight {
             int rudder = course.rudder[minute];
             int turn = rudder == TO_RIGHT ? 1 : rudder == TO_LEFT ? -1 : 0;
             int behind = before + drift + turn + aside[minute];
-            if (behind <= 0 || behind >= RIGHT_BANK) {
-                aground[minute] = 1;
+            if (behind > 0 && behind < RIGHT_BANK) {
+                return behind;
             }
-            return Math.max(0, Math.min(RIGHT_BANK, behind));
+            aground[minute] = 1;
+            return behind <= 0 ? 0 : RIGHT_BANK;
         }
 
         private int metresIn(Course course, int minute) {
