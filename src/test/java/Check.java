@@ -1,6 +1,7 @@
 /** What the tests share: comparing an answer with the one that is due, and telling texts at once. */
 final class Check {
     private final String test;
+    private String sentence = "";
     private int asked = 0;
     private int wrong = 0;
 
@@ -8,11 +9,16 @@ final class Check {
         this.test = test;
     }
 
+    /** The sentence of the document that the answers from here on are about. */
+    void about(String words) {
+        sentence = " [" + words + "]";
+    }
+
     void due(String call, long got, long want) {
         asked++;
         if (got != want) {
             wrong++;
-            System.out.println(test + ": " + call + " answered " + got + ", due is " + want);
+            System.out.println(test + sentence + ": " + call + " answered " + got + ", due is " + want);
         }
     }
 
@@ -20,7 +26,7 @@ final class Check {
         asked++;
         if (!holds) {
             wrong++;
-            System.out.println(test + ": it does not hold that " + claim);
+            System.out.println(test + sentence + ": it does not hold that " + claim);
         }
     }
 
@@ -47,6 +53,20 @@ final class Check {
         tell(x, 1, rates);
         tell(x, 2, rudder);
         return x;
+    }
+
+    /** An object with no rowers on a stream that does not flow, so that nothing moves by itself. */
+    static RowingEight still(String rudder) {
+        RowingEight x = eight("", "", rudder);
+        x.river(0, 0);
+        return x;
+    }
+
+    static void items(RowingEight x, int s, int form, int... values) {
+        x.sheet(s, form, values.length);
+        for (int i = 0; i < values.length; i++) {
+            x.put(s, form, i, values[i]);
+        }
     }
 
     static void gusts(RowingEight x, int many, int minute, int number) {

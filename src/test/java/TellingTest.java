@@ -201,13 +201,6 @@ public final class TellingTest {
         check.due("back() once more", x.back(), NOT);
     }
 
-    private static void items(RowingEight x, int s, int form, int... values) {
-        x.sheet(s, form, values.length);
-        for (int i = 0; i < values.length; i++) {
-            x.put(s, form, i, values[i]);
-        }
-    }
-
     private static void read() {
         RowingEight x = new RowingEight();
         check.due("read(-1)", x.read(-1), BAD);
@@ -216,24 +209,24 @@ public final class TellingTest {
         check.due("the finding", x.count(8), 1);
         x.sheet(0, 0, 0);
         check.due("read of an empty sheet", x.read(0), 0);
-        items(x, 0, 0, 1, 0);
+        Check.items(x, 0, 0, 1, 0);
         check.due("read of no whole one", x.read(0), 0);
-        items(x, 0, 0, 1, 0, 1);
+        Check.items(x, 0, 0, 1, 0, 1);
         check.due("read of just one", x.read(0), 1);
         x.back();
-        items(x, 0, 0, 1, 0, 1, 2, 1, 7, 1, 0);
+        Check.items(x, 0, 0, 1, 0, 1, 2, 1, 7, 1, 0);
         check.due("read of two whole ones", x.read(0), 2);
         check.due("place by what was read", x.at(0, 1), 12);
         check.due("metres by what was read", x.at(1, 0), 9);
-        items(x, 1, 1, 1, 0, 0, 1, 24, 0, 1, 0, 0);
+        Check.items(x, 1, 1, 1, 0, 0, 1, 24, 0, 1, 0, 0);
         check.due("read up to one that may not be", x.read(1), 1);
         check.due("events behind those before", x.count(4), 3);
         check.due("place behind both reads", x.at(0, 1), 10);
-        items(x, 2, 2, 2, 0, 0, 2, 0, 0, 2, 0, 0, 2, 0, 0, 2, 0, 0, 2, 0, 0);
+        Check.items(x, 2, 2, 2, 0, 0, 2, 0, 0, 2, 0, 0, 2, 0, 0, 2, 0, 0, 2, 0, 0);
         check.due("read until it is full", x.read(2), 5);
         check.due("events, full", x.count(4), 8);
         check.due("read when it is full", x.read(2), 0);
-        items(x, 3, 2, 256, 0, 0);
+        Check.items(x, 3, 2, 256, 0, 0);
         x.back();
         check.due("read of a kind that is none", x.read(3), 0);
     }
