@@ -48,6 +48,12 @@ public final class FaceTest {
             check.holds(m.getName() + " is public or private", Modifier.isPublic(how) || Modifier.isPrivate(how));
             check.holds(m.getName() + " is no private namesake", Modifier.isPublic(how) || !names.contains(m.getName()));
         }
+        for (Class<?> inside : RowingEight.class.getDeclaredClasses()) {
+            check.holds(inside.getName() + " is static", Modifier.isStatic(inside.getModifiers()));
+            for (Method m : inside.getDeclaredMethods()) {
+                check.holds(m.getName() + " is no namesake", !names.contains(m.getName()));
+            }
+        }
         check.holds("the class is public and final",
             Modifier.isPublic(RowingEight.class.getModifiers()) && Modifier.isFinal(RowingEight.class.getModifiers()));
         check.due("constructors", RowingEight.class.getDeclaredConstructors().length, 1);
